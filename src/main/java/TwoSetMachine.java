@@ -24,35 +24,20 @@ public final class TwoSetMachine {
     }
 
     public int poke(int address, int word) throws IllegalArgumentException, IndexOutOfBoundsException {
-        if ((address & 3) != 0) {
-            throw new IllegalArgumentException("4 does not divide the address");
-        }
-        if (!memory.holds(address)) {
-            throw new IndexOutOfBoundsException("there is no memory");
-        }
+        refuseAddress(address);
         int before = memory.word(address);
         memory.putWord(address, word);
         return before;
     }
 
     public int peek(int address) throws IllegalArgumentException, IndexOutOfBoundsException {
-        if ((address & 3) != 0) {
-            throw new IllegalArgumentException("4 does not divide the address");
-        }
-        if (!memory.holds(address)) {
-            throw new IndexOutOfBoundsException("there is no memory");
-        }
+        refuseAddress(address);
         return memory.word(address);
     }
 
     public void set(int mode, int i, int v) throws IllegalArgumentException, IndexOutOfBoundsException {
         int bank = Registers.bankOf(mode);
-        if (bank == NONE) {
-            throw new IllegalArgumentException("there is no such mode");
-        }
-        if (i < 0 || i > PC) {
-            throw new IndexOutOfBoundsException("there is no such register");
-        }
+        refuseRegister(bank, i);
         if (i == PC) {
             registers.jump(v);
         } else {
@@ -62,12 +47,7 @@ public final class TwoSetMachine {
 
     public int get(int mode, int i) throws IllegalArgumentException, IndexOutOfBoundsException {
         int bank = Registers.bankOf(mode);
-        if (bank == NONE) {
-            throw new IllegalArgumentException("there is no such mode");
-        }
-        if (i < 0 || i > PC) {
-            throw new IndexOutOfBoundsException("there is no such register");
-        }
+        refuseRegister(bank, i);
         return registers.heldIn(bank, i);
     }
 
@@ -118,6 +98,24 @@ public final class TwoSetMachine {
             return registers.cpsr();
         }
         return what == STEPS_IN_ALL ? processor.steps() : processor.faultsOf(what);
+    }
+
+    private void refuseAddress(int address) throws IllegalArgumentException, IndexOutOfBoundsException {
+        if ((address & 3) != 0) {
+            throw new IllegalArgumentException("4 does not divide the address");
+        }
+        if (!memory.holds(address)) {
+            throw new IndexOutOfBoundsException("there is no memory");
+        }
+    }
+
+    private static void refuseRegister(int bank, int i) throws IllegalArgumentException, IndexOutOfBoundsException {
+        if (bank == NONE) {
+            throw new IllegalArgumentException("there is no such mode");
+        }
+        if (i < 0 || i > PC) {
+            throw new IndexOutOfBoundsException("there is no such register");
+        }
     }
 
     /** Bit fields of instructions, named once for both sets. */
@@ -913,7 +911,12 @@ public final class TwoSetMachine {
                 return Fault.UND;
             }
             int n = Bits.four(instruction, 16);
-            int o = operand(instruction, byRegister);
+            int o;
+            if (Bits.on(instruction, 25)) {
+                o = shifter.turnedNumber(instruction, registers.carry());
+            } else {
+                o = byRegister ? shiftedByRegister(instruction) : shiftedByNumber(instruction);
+            }
             int first = byRegister ? registers.readLate(n) : registers.read(n);
             int result = alu.compute(operation, first, o, shifter.carry());
             int d = Bits.four(instruction, 12);
@@ -930,17 +933,16 @@ public final class TwoSetMachine {
             return NONE;
         }
 
-        private int operand(int instruction, boolean byRegister) {
-            if (Bits.on(instruction, 25)) {
-                return shifter.turnedNumber(instruction, registers.carry());
-            }
-            int m = Bits.four(instruction, 0);
-            int kind = instruction >>> 5 & 3;
-            if (byRegister) {
-                int n = registers.readLate(Bits.four(instruction, 8)) & 0xFF;
-                return shifter.shift(kind, registers.readLate(m), n, registers.carry());
-            }
-            return shifter.shiftByNumber(kind, registers.read(m), Bits.five(instruction, 7), registers.carry());
+        private int shiftedByRegister(int instruction) {
+            int value = registers.readLate(Bits.four(instruction, 0));
+            int n = registers.readLate(Bits.four(instruction, 8)) & 0xFF;
+            return shifter.shift(instruction >>> 5 & 3, value, n, registers.carry());
+        }
+
+        private int shiftedByNumber(int instruction) {
+            int value = registers.read(Bits.four(instruction, 0));
+            int n = Bits.five(instruction, 7);
+            return shifter.shiftByNumber(instruction >>> 5 & 3, value, n, registers.carry());
         }
 
         private int transfer(int instruction) {
@@ -948,11 +950,7 @@ public final class TwoSetMachine {
             if (byRegister && Bits.on(instruction, 4)) {
                 return Fault.UND;
             }
-            int offset = instruction & 0xFFF;
-            if (byRegister) {
-                int value = registers.read(Bits.four(instruction, 0));
-                offset = shifter.shiftByNumber(instruction >>> 5 & 3, value, Bits.five(instruction, 7), registers.carry());
-            }
+            int offset = byRegister ? shiftedByNumber(instruction) : instruction & 0xFFF;
             int kind = Bits.on(instruction, 22) ? Memory.BYTE : Memory.WORD;
             return transfers.indexed(instruction, kind, offset);
         }

@@ -64,6 +64,17 @@ public final class ArmStatusTest {
         x.set(Check.SVC, 0, 0xAFFFFF92);
         x.step(1);
         Check.due("MSR CPSR_fsxc", x.count(7), 0xA0000092);
+        for (int m = 0; m < 16; m++) {
+            TwoSetMachine z = Check.arm(Check.SYS, 0xE128F000 | m, 0xE10F0000 | m << 12 & 0x7000);
+            for (int i = 0; i < 15; i++) {
+                z.set(Check.SYS, i, i << 28);
+            }
+            z.set(Check.SYS, 15, Check.START);
+            z.step(1);
+            Check.due("MSR CPSR_f, r" + m, z.count(7) & 0xF0000000, m == 15 ? 0 : m << 28);
+            z.step(1);
+            Check.due("MRS r" + (m & 7), z.get(Check.SYS, m & 7), z.count(7));
+        }
         TwoSetMachine y = Check.arm(Check.SVC, 0xE321F01F);
         y.step(1);
         Check.due("MSR CPSR_c, #0x1F", y.count(7), 0x1F);

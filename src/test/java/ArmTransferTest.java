@@ -164,6 +164,9 @@ public final class ArmTransferTest {
         z.set(Check.SVC, 1, -0x208 + 0x800);
         z.step(1);
         Check.due("PC as offset: plus 8", z.get(Check.SVC, 4), WORD);
+        TwoSetMachine h = with(0x800 - 0x208, 0xE19140BF);
+        h.step(1);
+        Check.due("PC as offset of LDRH: plus 8", h.get(Check.SVC, 4), WORD & 0xFFFF);
         z.set(Check.SVC, 1, 0x800);
         z.step(1);
         Check.due("LDRH PC", z.get(Check.SVC, 15), WORD & 0xFFFC);

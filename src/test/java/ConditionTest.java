@@ -11,7 +11,44 @@ public final class ConditionTest {
             Check.dueUndefined("condition 15", Check.arm(flags << 28 | Check.SVC, 0xF3A00001));
         }
         undefinedUnderCondition();
+        everyKindUnderConditions();
         Check.end();
+    }
+
+    /** One instruction of each kind does the same under always and under any condition that is so. */
+    private static void everyKindUnderConditions() {
+        int[] words = {0x012FFF11, 0x00030291, 0x00843291, 0x01013092, 0x01D130B0, 0x01C120B0, 0x010F3000, 0x0128F002,
+            0x0328F20A, 0x00813002, 0x02813002, 0x00913212, 0x01500001, 0x05913000, 0x07913002, 0x08A1000C, 0x08B1000C,
+            0x0A000004, 0x0B000004, 0x0F000000, 0x06000010, 0x0E000000, 0x01000050};
+        for (int word : words) {
+            String want = seen(0xE0000000 | word);
+            for (int condition = 0; condition < 14; condition++) {
+                String got = seen(condition << 28 | word);
+                if (holds(FLAGS, condition)) {
+                    Check.dueText(Integer.toHexString(word) + " under " + condition, got, want);
+                } else {
+                    Check.dueText(Integer.toHexString(word) + " under " + condition, got, seen(0xE1A00000));
+                }
+            }
+        }
+    }
+
+    /** N and C. */
+    private static final int FLAGS = 10;
+
+    private static String seen(int word) {
+        TwoSetMachine x = Check.arm(FLAGS << 28 | Check.SVC, word);
+        x.poke(0x400, 0x12345678);
+        x.set(Check.SVC, 1, 0x400);
+        x.set(Check.SVC, 2, 4);
+        StringBuilder s = new StringBuilder().append(x.step(1));
+        for (int i = 0; i < 16; i++) {
+            s.append(' ').append(x.get(x.count(7) & 0x1F, i));
+        }
+        for (int address = 0x3F8; address < 0x410; address += 4) {
+            s.append(' ').append(x.peek(address));
+        }
+        return s.append(' ').append(x.count(7)).toString();
     }
 
     private static boolean holds(int flags, int condition) {

@@ -10,6 +10,7 @@ public final class ThumbTransferTest {
         besideSp();
         pushAndPop();
         many();
+        allRegisters();
         noMemory();
         Check.end();
     }
@@ -143,6 +144,45 @@ public final class ThumbTransferTest {
         TwoSetMachine none = with(-4, 0xC100, 0xC900);
         Check.due("STM and LDM of nothing", none.step(2), 0);
         Check.due("b stays", none.get(Check.SVC, 1), -4);
+    }
+
+    /** PUSH and POP, STM and LDM of r0 .. r7, one by one and all of them. */
+    private static void allRegisters() {
+        int[] lists = {0x01, 0x02, 0x04, 0x08, 0x10, 0x20, 0x40, 0x80, 0x7E, 0xBD, 0xFF};
+        for (int low : lists) {
+            TwoSetMachine x = with(0x101, 0xB400 | low, 0xBC00 | low);
+            x.set(Check.SVC, 13, BASE);
+            dueKept("PUSH and POP " + low, x, low, 13, BASE - 4 * Integer.bitCount(low), BASE - 4 * Integer.bitCount(low));
+            for (int b = 0; b < 8; b++) {
+                TwoSetMachine y = with(0x101, 0xC000 | b << 8 | low, 0xC800 | b << 8 | low);
+                y.set(Check.SVC, b, BASE);
+                if ((low >> b & 1) == 0) {
+                    dueKept("STM and LDM of r" + b + ", " + low, y, low, b, BASE, BASE + 4 * Integer.bitCount(low));
+                }
+            }
+        }
+    }
+
+    /** A store of the listed registers from the lowest address on, then a load of other words. */
+    private static void dueKept(String what, TwoSetMachine x, int list, int b, int lowest, int moved) {
+        Check.dueStep(what, x);
+        Check.due(what + ": b", x.get(Check.SVC, b), moved);
+        int address = lowest;
+        for (int i = 0; i < 8; i++) {
+            if ((list >> i & 1) != 0) {
+                Check.due(what + ": r" + i + " stored", x.peek(address), 0x100 + i);
+                x.poke(address, 0x900 + i);
+                address += 4;
+            }
+        }
+        x.set(Check.SVC, b, lowest);
+        Check.dueStep(what, x);
+        for (int i = 0; i < 8; i++) {
+            if (i != b) {
+                Check.due(what + ": r" + i + " loaded", x.get(Check.SVC, i), (list >> i & 1) != 0 ? 0x900 + i : 0x100 + i);
+            }
+        }
+        Check.due(what + ": b", x.get(Check.SVC, b), address);
     }
 
     private static void noMemory() {
