@@ -11,6 +11,8 @@ public final class ArmManyTest {
         noRegister();
         noMemory();
         lowestBits();
+        lowestBitsOfFourWays();
+        eachRegister();
         Check.end();
     }
 
@@ -172,6 +174,39 @@ public final class ArmManyTest {
         TwoSetMachine u = with(Check.SVC, 0x40000, 0xE9210005);
         Check.dueStep("downwards from the end", u);
         Check.due("n", u.get(Check.SVC, 1), 0x3FFF8);
+    }
+
+    /** {r3, r4} from a base that is no multiple of 4. */
+    private static void lowestBitsOfFourWays() {
+        for (int k = 0; k < 4; k++) {
+            for (int way = 0; way < 4; way++) {
+                int lowest = new int[] {BASE - 4, BASE, BASE - 8, BASE + 4}[way];
+                TwoSetMachine x = with(Check.SVC, BASE + k, 0xE8110018 | way << 23);
+                Check.dueStep("LDM", x);
+                Check.due("LDM r3, way " + way + " with " + k, x.get(Check.SVC, 3), 0x70000000 + lowest);
+                Check.due("LDM r4, way " + way + " with " + k, x.get(Check.SVC, 4), 0x70000000 + lowest + 4);
+                TwoSetMachine y = with(Check.SVC, BASE + k, 0xE8010018 | way << 23);
+                Check.dueStep("STM", y);
+                Check.due("STM r3, way " + way + " with " + k, y.peek(lowest), 0x103);
+                Check.due("STM r4, way " + way + " with " + k, y.peek(lowest + 4), 0x104);
+            }
+        }
+    }
+
+    /** STMIA and LDMIA of one register, n written; n is another one. */
+    private static void eachRegister() {
+        for (int i = 0; i < 15; i++) {
+            int n = i == 1 ? 2 : 1;
+            TwoSetMachine x = with(Check.SVC, BASE, 0xE8A00000 | n << 16 | 1 << i, 0xE8B00000 | n << 16 | 1 << i);
+            x.set(Check.SVC, i, 0x55);
+            x.set(Check.SVC, n, BASE);
+            x.step(1);
+            Check.due("STM of r" + i, x.peek(BASE), 0x55);
+            Check.due("n of STM of r" + i, x.get(Check.SVC, n), BASE + 4);
+            x.step(1);
+            Check.due("LDM of r" + i, x.get(Check.SVC, i), 0x70000000 + BASE + 4);
+            Check.due("n of LDM of r" + i, x.get(Check.SVC, n), BASE + 8);
+        }
     }
 
     private static void lowestBits() {

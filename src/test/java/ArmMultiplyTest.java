@@ -10,6 +10,7 @@ public final class ArmMultiplyTest {
             }
         }
         sameRegisters();
+        addingAllBits();
         undefined();
         Check.end();
     }
@@ -74,6 +75,22 @@ public final class ArmMultiplyTest {
         x.step(1);
         Check.due("UMULL r1, r2, r1, r2: low", x.get(Check.SVC, 1), 0);
         Check.due("UMULL r1, r2, r1, r2: high", x.get(Check.SVC, 2), 3);
+    }
+
+    private static void addingAllBits() {
+        TwoSetMachine x = Check.arm(Check.SVC, 0xE0A43291, 0xE0E43291);
+        x.set(Check.SVC, 1, 1);
+        x.set(Check.SVC, 2, 1);
+        x.set(Check.SVC, 3, -1);
+        x.set(Check.SVC, 4, 0x7FFFFFFE);
+        x.step(1);
+        Check.due("UMLAL, low", x.get(Check.SVC, 3), 0);
+        Check.due("UMLAL, high", x.get(Check.SVC, 4), 0x7FFFFFFF);
+        x.set(Check.SVC, 1, -1);
+        x.set(Check.SVC, 3, 0xF2345678);
+        x.step(1);
+        Check.due("SMLAL, low", x.get(Check.SVC, 3), 0xF2345677);
+        Check.due("SMLAL, high", x.get(Check.SVC, 4), 0x7FFFFFFF);
     }
 
     private static void undefined() {

@@ -119,6 +119,15 @@ public final class ArmStatusTest {
             Check.due("PC of BX to " + to[k], x.get(Check.SVC, 15), pc[k]);
             Check.due("T of BX to " + to[k], x.count(7), Check.V | 0xD3 | ((to[k] & 1) != 0 ? 0x20 : 0));
         }
+        for (int mode : Check.MODES) {
+            TwoSetMachine y = Check.arm(mode, 0xE12FFF11, 0xE12FFF12);
+            y.set(mode, 1, 0x204);
+            y.set(mode, 2, 0x301);
+            y.step(1);
+            Check.due("CPSR of BX to ARM in " + mode, y.count(7), mode | 0xC0);
+            y.step(1);
+            Check.due("CPSR of BX to THUMB in " + mode, y.count(7), mode | 0xE0);
+        }
         TwoSetMachine x = Check.arm(Check.SVC, 0xE12FFF1F);
         x.step(1);
         Check.due("BX PC", x.get(Check.SVC, 15), 0x208);

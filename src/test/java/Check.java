@@ -9,7 +9,7 @@ final class Check {
     static final int SYS = 0x1F;
     static final int[] MODES = {USR, FIQ, IRQ, SVC, ABT, UND, SYS};
 
-    /** What a call threw; the numbers are those of the tests under ../shared/tests. */
+    /** What a call threw, by name. */
     static final String NOTHING = "nothing";
     static final String ARGUMENT = "IllegalArgumentException";
     static final String INDEX = "IndexOutOfBoundsException";

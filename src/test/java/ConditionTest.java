@@ -18,7 +18,7 @@ public final class ConditionTest {
     /** One instruction of each kind does the same under always and under any condition that is so. */
     private static void everyKindUnderConditions() {
         int[] words = {0x012FFF11, 0x00030291, 0x00843291, 0x01013092, 0x01D130B0, 0x01C120B0, 0x010F3000, 0x0128F002,
-            0x0328F20A, 0x00813002, 0x02813002, 0x00913212, 0x01500001, 0x05913000, 0x07913002, 0x08A1000C, 0x08B1000C,
+            0x0328F20A, 0x00813002, 0x02813002, 0x00913112, 0x01500001, 0x05913000, 0x07913002, 0x08A1000C, 0x08B1000C,
             0x0A000004, 0x0B000004, 0x0F000000, 0x06000010, 0x0E000000, 0x01000050};
         for (int word : words) {
             String want = seen(0xE0000000 | word);
