@@ -1,3 +1,7 @@
+import java.util.List;
+import java.util.Map;
+import java.util.TreeMap;
+
 /** What all tests share: counting wrong answers, the calls that must throw, and short programs. */
 final class Check {
     static final int USR = 0x10;
@@ -20,8 +24,13 @@ final class Check {
     static final int C = 1 << 29;
     static final int V = 1 << 28;
 
+    private static final int[] WITH_SPSR = {FIQ, IRQ, SVC, ABT, UND};
+
     private static int asked = 0;
     private static int wrong = 0;
+    private static int sentences = 0;
+    private static int askedBefore = 0;
+    private static String sentence = "";
 
     private Check() {
     }
@@ -30,11 +39,30 @@ final class Check {
         void run();
     }
 
+    /**
+     * The answers that follow are due by these words. They stand just so in that piece of the document
+     * (told by its first words, or as "Promise 4"); SentencesTest sees to it that they do.
+     */
+    static void sentence(String piece, String words) {
+        endSentence();
+        sentence = piece.equals(words) ? "\"" + words + "\": " : piece + ", \"" + words + "\": ";
+        sentences++;
+        askedBefore = asked;
+    }
+
+    /** A sentence that is named and not tested would only seem to be safe. */
+    private static void endSentence() {
+        if (!sentence.isEmpty() && asked == askedBefore) {
+            wrong++;
+            System.out.println(sentence + "no answer was asked");
+        }
+    }
+
     static void due(String what, int got, int want) {
         asked++;
         if (got != want) {
             wrong++;
-            System.out.printf("%s answered %d (0x%08X), due is %d (0x%08X)%n", what, got, got, want, want);
+            System.out.printf("%s%s answered %d (0x%08X), due is %d (0x%08X)%n", sentence, what, got, got, want, want);
         }
     }
 
@@ -46,7 +74,7 @@ final class Check {
         asked++;
         if (!got.equals(want)) {
             wrong++;
-            System.out.printf("%s answered %s, due is %s%n", what, got, want);
+            System.out.printf("%s%s answered %s, due is %s%n", sentence, what, got, want);
         }
     }
 
@@ -84,6 +112,76 @@ final class Check {
         return x;
     }
 
+    /** r0, r1 and so on of a mode get these values. */
+    static TwoSetMachine with(TwoSetMachine x, int mode, int... values) {
+        for (int i = 0; i < values.length; i++) {
+            x.set(mode, i, values[i]);
+        }
+        return x;
+    }
+
+    static boolean isMode(int number) {
+        for (int one : MODES) {
+            if (one == number) {
+                return true;
+            }
+        }
+        return false;
+    }
+
+    static boolean hasSaved(int mode) {
+        return isMode(mode) && mode != USR && mode != SYS;
+    }
+
+    private static boolean isOwn(int mode, int i) {
+        return mode == USR || mode == FIQ && i >= 8 && i < 15 || mode != SYS && (i == 13 || i == 14);
+    }
+
+    /** All registers of all modes, the SPSRs and CPSR, by name; takes 42 calls. */
+    static Map<String, Integer> state(TwoSetMachine x) {
+        Map<String, Integer> all = new TreeMap<>();
+        for (int mode : MODES) {
+            for (int i = 0; i < 16; i++) {
+                if (isOwn(mode, i)) {
+                    all.put(register(mode, i), x.get(mode, i));
+                }
+            }
+        }
+        for (int mode : WITH_SPSR) {
+            int saved = x.saved(mode, 0);
+            x.saved(mode, saved);
+            all.put(savedOf(mode), saved);
+        }
+        all.put("CPSR", x.count(7));
+        return all;
+    }
+
+    /** The name in state(): what USR and SYS have, others that have none of their own have, too. */
+    static String register(int mode, int i) {
+        return i == 15 ? "PC" : "r" + i + " of 0x" + Integer.toHexString(isOwn(mode, i) ? mode : USR);
+    }
+
+    static String savedOf(int mode) {
+        return "SPSR of 0x" + Integer.toHexString(mode);
+    }
+
+    /** All but what is named is as it was. */
+    static void dueStays(String what, TwoSetMachine x, Map<String, Integer> before, String... but) {
+        Map<String, Integer> now = state(x);
+        for (String name : now.keySet()) {
+            if (!List.of(but).contains(name)) {
+                due(what + ": " + name + " stays:", now.get(name), before.get(name));
+            }
+        }
+    }
+
+    /** One step that must be a fault of the kind and change nothing but what the fault itself does. */
+    static void dueFaultAlone(String what, TwoSetMachine x, int kind, int mode, int vector, int link) {
+        Map<String, Integer> before = state(x);
+        dueFault(what, x, kind, mode, vector, link);
+        dueStays(what, x, before, "PC", "CPSR", register(mode, 14), savedOf(mode));
+    }
+
     /** One step that must be a fault of the kind, with its LR. */
     static void dueFault(String what, TwoSetMachine x, int kind, int mode, int vector, int link) {
         int before = x.count(7);
@@ -111,7 +209,9 @@ final class Check {
     }
 
     static void end() {
-        System.out.println(wrong == 0 ? "all " + asked + " answers are as due" : wrong + " answers are not as due");
+        endSentence();
+        String by = sentences == 0 ? "" : " by " + sentences + " sentences";
+        System.out.println(wrong == 0 ? "all " + asked + " answers are as due" + by : wrong + " answers are not as due");
         if (wrong != 0) {
             System.exit(1);
         }
