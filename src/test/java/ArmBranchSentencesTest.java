@@ -64,9 +64,31 @@ public final class ArmBranchSentencesTest {
                 Check.dueStays("BX", x, before, "PC", "CPSR");
             }
         }
+        exchangeInEachMode();
         // One bit other than of BX: a test without flags.
-        for (int word : new int[] {0xE12FFE11, 0xE12FEF11, 0xE12EFF11, 0xE16FFF11, 0xE10FFF11, 0xE12FFF31, 0xE12FFF51, 0xE12FFF91}) {
-            Check.dueUndefined("no BX: " + Integer.toHexString(word), Check.arm(Check.SVC, word));
+        for (int bit : new int[] {4, 5, 6, 7, 8, 9, 10, 11, 12, 13, 14, 15, 16, 17, 18, 19, 21, 22}) {
+            Check.dueUndefined("no BX without its bit " + bit, Check.arm(Check.SVC, 0xE12FFF11 ^ 1 << bit));
+        }
+        // With bit 20 TEQ PC, r1, LSL PC; with bit 23 MOV PC, r1, LSL PC (by 0x0C).
+        TwoSetMachine test = Check.with(Check.arm(Check.SVC, 0xE13FFF11), Check.SVC, 0, 1);
+        Check.dueStep("no BX with bit 20", test);
+        Check.due("no BX with bit 20: PC goes on", test.get(Check.SVC, 15), 0x204);
+        TwoSetMachine move = Check.with(Check.arm(Check.SVC, 0xE1AFFF11), Check.SVC, 0, 1);
+        Check.dueStep("no BX with bit 23", move);
+        Check.due("no BX with bit 23: PC", move.get(Check.SVC, 15), 0x1000);
+        Check.due("no BX with bit 23: T", move.count(7), 0xD3);
+    }
+
+    private static void exchangeInEachMode() {
+        for (int mode : Check.MODES) {
+            for (int low = 0; low < 2; low++) {
+                TwoSetMachine x = Check.with(Check.arm(mode, 0xE12FFF10), mode, 0x1000 | low);
+                Check.dueStep("BX", x);
+                Check.due("CPSR of BX in " + mode, x.count(7), mode | 0xC0 | low << 5);
+                TwoSetMachine y = Check.with(Check.thumb(mode, 0x4700), mode, 0x1000 | low);
+                Check.dueStep("BX in THUMB", y);
+                Check.due("CPSR of BX in THUMB in " + mode, y.count(7), mode | 0xC0 | low << 5);
+            }
         }
     }
 

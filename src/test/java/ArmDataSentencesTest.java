@@ -267,9 +267,11 @@ public final class ArmDataSentencesTest {
         // Bits 6 .. 5 are 0 and bits 27 .. 24 are not 0, nor is it SWAP: operations 8 to 15.
         for (int operation = 8; operation < 16; operation++) {
             for (int flags = 0; flags < 2; flags++) {
-                int word = 0xE0013292 | operation << 21 | flags << 20;
-                TwoSetMachine x = Check.with(Check.arm(Check.SVC | Check.N, word), Check.SVC, 1, 0x800, 3);
-                Check.dueFaultAlone(Integer.toHexString(word), x, 0, Check.UND, 4, 0x204);
+                for (int m = 0; m < 16; m += 5) {
+                    int word = 0xE0013290 | operation << 21 | flags << 20 | m;
+                    TwoSetMachine x = Check.with(Check.arm(Check.SVC | Check.N, word), Check.SVC, 1, 0x800, 3);
+                    Check.dueFaultAlone(Integer.toHexString(word), x, 0, Check.UND, 4, 0x204);
+                }
             }
         }
         TwoSetMachine x = Check.arm(Check.SVC, 0xE3A00090, 0xE3A010F0);

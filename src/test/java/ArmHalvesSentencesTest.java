@@ -53,9 +53,10 @@ public final class ArmHalvesSentencesTest {
             Check.dueFaultAlone("SWP at " + place, ready(0xE1013092, place), 3, Check.ABT, 0x10, 0x208);
             Check.dueFaultAlone("SWPB at " + place, ready(0xE1413092, place), 3, Check.ABT, 0x10, 0x208);
         }
-        // One bit other: DATA with bits 7 and 4.
-        for (int word : new int[] {0xE1213092, 0xE1113092, 0xE1813092, 0xE1013192, 0xE1013892, 0xE1613092}) {
-            Check.dueUndefined("no SWP: " + Integer.toHexString(word), ready(word, BASE));
+        // One bit other: DATA with bits 7 and 4, or a test without flags.
+        for (int bit : new int[] {4, 7, 8, 9, 10, 11, 20, 21, 23}) {
+            Check.dueUndefined("no SWP without its bit " + bit, ready(0xE1013092 ^ 1 << bit, BASE));
+            Check.dueUndefined("no SWPB without its bit " + bit, ready(0xE1413092 ^ 1 << bit, BASE));
         }
     }
 

@@ -81,16 +81,32 @@ public final class ArmManySentencesTest {
                 TwoSetMachine y = ready(Check.SVC, MANY | UP | LOAD | list, BASE + k);
                 Check.dueStep("LDM", y);
                 dueLoaded("LDM of " + list + " at " + k + ", not turned", y, BASE, list);
-                // Downwards the lowest one is at the lowest address, too.
-                int size = 4 * Integer.bitCount(list);
-                TwoSetMachine z = ready(Check.SVC, MANY | EARLY | list, BASE + k);
-                Check.dueStep("STM down", z);
-                dueStored("STM down of " + list + " at " + k, z, BASE - size, list);
+                dueOtherWays(list, k);
             }
+            // The last word, from an odd place.
+            TwoSetMachine last = ready(Check.SVC, MANY | UP | LOAD | 4, 0x3FFFC + k);
+            last.poke(0x3FFFC, 77);
+            Check.dueStep("LDM of the last word", last);
+            Check.due("LDM of the last word at " + k, last.get(Check.SVC, 2), 77);
         }
         TwoSetMachine x = ready(Check.SVC, MANY | UP | 2, BASE + 3);
         Check.dueStep("STM r1, {r1}", x);
         Check.due("the lowest bits are stored", x.peek(BASE), BASE + 3);
+    }
+
+    /** Downwards, and ahead upwards: the lowest one is at the lowest address, too. */
+    private static void dueOtherWays(int list, int k) {
+        int size = 4 * Integer.bitCount(list);
+        int[] forms = {0, EARLY, UP | EARLY};
+        int[] lowest = {BASE - size + 4, BASE - size, BASE + 4};
+        for (int way = 0; way < forms.length; way++) {
+            TwoSetMachine x = ready(Check.SVC, MANY | forms[way] | list, BASE + k);
+            Check.dueStep("STM", x);
+            dueStored("STM of " + list + " at " + k + ", way " + way, x, lowest[way], list);
+            TwoSetMachine y = ready(Check.SVC, MANY | forms[way] | LOAD | list, BASE + k);
+            Check.dueStep("LDM", y);
+            dueLoaded("LDM of " + list + " at " + k + ", way " + way, y, lowest[way], list);
+        }
     }
 
     /** All of {r2, r3, r5} from the lowest address, with n written and not. */

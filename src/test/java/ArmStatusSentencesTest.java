@@ -35,9 +35,17 @@ public final class ArmStatusSentencesTest {
         x.step(1);
         Check.due("MRS PC: written with its lowest bits 0", x.get(Check.SVC, 15), 0x200000D0);
         // One bit other: a test without flags.
-        for (int word : new int[] {0xE10F0001, 0xE10F0800, 0xE10E0000, 0xE1070000, 0xE1000000, 0xE14F0002, 0xE30F0000}) {
-            Check.dueUndefined("no MRS: " + Integer.toHexString(word), Check.arm(Check.SVC, word));
+        for (int bit : new int[] {0, 1, 2, 3, 4, 5, 6, 7, 8, 9, 10, 11, 16, 17, 18, 19, 21, 25}) {
+            dueUndefinedWith("no MRS", 0xE10F0000, bit);
+            dueUndefinedWith("no MRS", 0xE14F0000, bit);
         }
+        // With bit 20 TST PC, r0; with bit 23 ORR r2, PC, r0.
+        TwoSetMachine test = Check.with(Check.arm(Check.SVC, 0xE11F2000), Check.SVC, 0, 0, 5);
+        Check.dueStep("no MRS with bit 20", test);
+        Check.due("no MRS with bit 20: d stays", test.get(Check.SVC, 2), 5);
+        TwoSetMachine or = Check.with(Check.arm(Check.SVC, 0xE18F2000), Check.SVC, 1, 0, 5);
+        Check.dueStep("no MRS with bit 23", or);
+        Check.due("no MRS with bit 23: d", or.get(Check.SVC, 2), 0x209);
     }
 
     private static void forms() {
@@ -62,9 +70,28 @@ public final class ArmStatusSentencesTest {
             Check.dueStep("MSR", x);
             Check.due("MSR of the number " + number, x.count(7), value & 0xF0000000 | 0xD3);
         }
-        for (int word : new int[] {0xE128F010, 0xE128F080, 0xE128F100, 0xE128F800, 0xE128E000, 0xE1287000, 0xE328E000, 0xE3287000}) {
-            Check.dueUndefined("no MSR: " + Integer.toHexString(word), Check.arm(Check.SVC, word));
+        for (int bit : new int[] {4, 5, 6, 7, 8, 9, 10, 11, 12, 13, 14, 15}) {
+            dueUndefinedWith("no MSR", 0xE128F000, bit);
+            dueUndefinedWith("no MSR", 0xE168F000, bit);
         }
+        for (int bit : new int[] {12, 13, 14, 15, 21}) {
+            dueUndefinedWith("no MSR of a number", 0xE328F000, bit);
+            dueUndefinedWith("no MSR of a number", 0xE368F000, bit);
+        }
+        // With bit 20 TEQ r8; with bit 23 MOV PC; of r0, and of the number 0xF0000000.
+        for (int word : new int[] {0xE128F000, 0xE328F20F}) {
+            TwoSetMachine test = Check.with(Check.arm(Check.SVC | Check.C | Check.V, word | 1 << 20), Check.SVC, 0xF0000000);
+            Check.dueStep("no MSR with bit 20", test);
+            Check.due("no MSR with bit 20: flags of TEQ", test.count(7), Check.N | Check.C | Check.V | 0xD3);
+            TwoSetMachine move = Check.with(Check.arm(Check.SVC, word | 1 << 23), Check.SVC, 0xF0000000);
+            Check.dueStep("no MSR with bit 23", move);
+            Check.due("no MSR with bit 23: PC", move.get(Check.SVC, 15), 0xF0000000);
+            Check.due("no MSR with bit 23: CPSR stays", move.count(7), 0xD3);
+        }
+    }
+
+    private static void dueUndefinedWith(String what, int word, int bit) {
+        Check.dueUndefined(what + " without its bit " + bit, Check.arm(Check.SVC, word ^ 1 << bit));
     }
 
     private static void fields() {

@@ -93,6 +93,16 @@ public final class ThumbDataSentencesTest {
                 }
             }
         }
+        for (int d = 0; d < 8; d++) {
+            for (int s = 0; s < 8; s++) {
+                // LSL d, s, #1
+                TwoSetMachine x = counted(Check.SVC, 0x0040 | s << 3 | d);
+                Map<String, Integer> before = Check.state(x);
+                Check.dueStep("LSL", x);
+                Check.due("LSL r" + d + ", r" + s + ", #1", x.get(Check.SVC, d), 0x200 + 2 * s);
+                Check.dueStays("LSL", x, before, "PC", "CPSR", Check.register(Check.SVC, d));
+            }
+        }
         // 0 as in ARM: LSL 0, LSR 32, ASR 32, told in numbers.
         int[] want = {0x80000001, 0, -1};
         for (int kind = 0; kind < 3; kind++) {
@@ -157,6 +167,14 @@ public final class ThumbDataSentencesTest {
                 }
             }
         }
+        for (int d = 0; d < 8; d++) {
+            for (int s = 0; s < 8; s++) {
+                dueOfRegisters(0x4040, d, s, 0x100 + d ^ 0x100 + s);
+                dueOfRegisters(0x4240, d, s, -0x100 - s);
+                dueOfRegisters(0x4340, d, s, (0x100 + d) * (0x100 + s));
+                dueOfRegisters(0x43C0, d, s, ~(0x100 + s));
+            }
+        }
         // NEG of the edge: 0x80000000 has no other sign; MUL goes round; C and V stay with MUL.
         TwoSetMachine x = Check.with(Check.thumb(Check.SVC, 0x4248), Check.SVC, 5, Integer.MIN_VALUE);
         Check.dueStep("NEG", x);
@@ -166,6 +184,16 @@ public final class ThumbDataSentencesTest {
         Check.dueStep("MUL", y);
         Check.due("MUL beyond 32 bits", y.get(Check.SVC, 0), 0);
         Check.due("flags of MUL", y.count(7), Check.Z | Check.C | Check.V | 0xF3);
+    }
+
+    /** OP d, s: d alone is written. */
+    private static void dueOfRegisters(int half, int d, int s, int want) {
+        TwoSetMachine x = counted(Check.SVC, half | s << 3 | d);
+        Map<String, Integer> before = Check.state(x);
+        String what = Integer.toHexString(half) + " of r" + d + ", r" + s;
+        Check.dueStep(what, x);
+        Check.due(what, x.get(Check.SVC, d), want);
+        Check.dueStays(what, x, before, "PC", "CPSR", Check.register(Check.SVC, d));
     }
 
     private static void shiftsByLowestByte() {
@@ -182,6 +210,12 @@ public final class ThumbDataSentencesTest {
         Check.dueStep("LSL by 0x100", x);
         Check.due("LSL by 0x100", x.get(Check.SVC, 0), 3);
         Check.due("C stays", x.count(7), Check.C | 0xF3);
+        for (int d = 0; d < 8; d++) {
+            for (int s = 0; s < 8; s++) {
+                // r1 is 0x101, r2 0x102 and so on: the lowest byte is the number.
+                dueOfRegisters(0x4080, d, s, 0x100 + d << s);
+            }
+        }
         // s is d: LSL r0, r0
         TwoSetMachine y = Check.with(Check.thumb(Check.SVC, 0x4080), Check.SVC, 3);
         Check.dueStep("LSL r0, r0", y);

@@ -99,6 +99,28 @@ public final class ThumbTransferSentencesTest {
             TwoSetMachine x = ready(0x5808 | o << 6, 4);
             x.set(Check.SVC, o, o == 1 ? BASE / 2 : BASE - 4);
             dueLoaded("o is r" + o, x, 0, WORD);
+            dueEachRegister("by a register", 0x5000 | o << 6, 0x5800 | o << 6, o);
+        }
+    }
+
+    /** A store and a load with each d and s; o, if it is a register, is another one and is 0. */
+    private static void dueEachRegister(String what, int store, int load, int o) {
+        for (int d = 0; d < 8; d++) {
+            for (int s = 0; s < 8; s++) {
+                if (d != o && s != o) {
+                    TwoSetMachine x = counted(store | s << 3 | d, 0);
+                    TwoSetMachine y = counted(load | s << 3 | d, 0);
+                    if (o >= 0) {
+                        x.set(Check.SVC, o, 0);
+                        y.set(Check.SVC, o, 0);
+                    }
+                    x.set(Check.SVC, s, BASE);
+                    dueStored(what + ": r" + d + " at r" + s, x, d == s ? BASE : 0x100 + d);
+                    y.set(Check.SVC, s, BASE);
+                    y.poke(BASE, 0x5A5A);
+                    dueLoaded(what + ": r" + d + " from r" + s, y, d, 0x5A5A);
+                }
+            }
         }
     }
 
@@ -110,6 +132,7 @@ public final class ThumbTransferSentencesTest {
             dueStored("STRB, n " + n, ready(0x7008 | n << 6, BASE - n), WORD & ~0xFF | 0xAA);
             dueLoaded("LDRB, n " + n, ready(0x7808 | n << 6, BASE - n), 0, WORD & 0xFF);
         }
+        dueEachRegister("by a number", 0x6000, 0x6800, -1);
         for (int half : new int[] {0x6008, 0x6808, 0x7008, 0x7808}) {
             dueAbort("behind memory " + Integer.toHexString(half), ready(half, 0x40000));
             dueAbort("below 0 " + Integer.toHexString(half), ready(half, -1));
@@ -130,6 +153,7 @@ public final class ThumbTransferSentencesTest {
             dueStored("STRH, higher half, n " + n, ready(0x8008 | n << 6, BASE + 2 - 2 * n), WORD & 0xFFFF | 0xBBAA0000);
             dueLoaded("LDRH, higher half, n " + n, ready(0x8808 | n << 6, BASE + 2 - 2 * n), 0, WORD >>> 16);
         }
+        dueEachRegister("halves", 0x8000, 0x8800, -1);
         for (int half : new int[] {0x8008, 0x8808}) {
             dueAbort("behind memory", ready(half, 0x40000));
             dueAbort("below 0", ready(half, -2));
