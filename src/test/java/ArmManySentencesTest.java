@@ -370,6 +370,13 @@ public final class ArmManySentencesTest {
         Check.due("r13 of USR is stored", x.peek(BASE - 4), 0x55);
         Check.due("r13 of IRQ is n", x.get(Check.IRQ, 13), BASE - 4);
         Check.due("r13 of USR stays", x.get(Check.USR, 13), 0x55);
+        TwoSetMachine y = ready(Check.IRQ, 0xE8FD6000, 0);
+        y.set(Check.IRQ, 13, BASE);
+        Check.dueStep("LDMIA r13!, {r13, r14}^", y);
+        Check.due("r13 of USR is loaded", y.get(Check.USR, 13), 0x70000000 + BASE);
+        Check.due("r14 of USR is loaded", y.get(Check.USR, 14), 0x70000000 + BASE + 4);
+        Check.due("r13 of IRQ is n", y.get(Check.IRQ, 13), BASE + 8);
+        Check.due("r14 of IRQ stays", y.get(Check.IRQ, 14), 0x10E);
     }
 
     private static void noRegister() {

@@ -250,5 +250,33 @@ public final class ShiftSentencesTest {
         dueDifference(Integer.MAX_VALUE, -1, Check.N | Check.V);
         dueDifference(Integer.MIN_VALUE, Integer.MIN_VALUE, Check.Z | Check.C);
         dueDifference(-1, Integer.MAX_VALUE, Check.N | Check.C);
+        // a - b - 1 + C is a + not b + C: one less with C 0, where not b is 0 or the sum is at an edge.
+        dueWithCarry(0, 0, 0, Check.N);
+        dueWithCarry(0, 0, 1, Check.Z | Check.C);
+        dueWithCarry(0, -1, 0, Check.Z);
+        dueWithCarry(0, -1, 1, 0);
+        dueWithCarry(5, -1, 0, 0);
+        dueWithCarry(-1, -1, 0, Check.N);
+        dueWithCarry(-1, -1, 1, Check.Z | Check.C);
+        dueWithCarry(Integer.MIN_VALUE, 0, 0, Check.C | Check.V);
+        dueWithCarry(Integer.MIN_VALUE, Integer.MAX_VALUE, 0, Check.Z | Check.C | Check.V);
+        dueWithCarry(Integer.MAX_VALUE, -1, 0, 0);
+        dueWithCarry(Integer.MAX_VALUE, -1, 1, Check.N | Check.V);
+        dueWithCarry(0, Integer.MIN_VALUE, 0, 0);
+        dueWithCarry(0, Integer.MIN_VALUE, 1, Check.N | Check.V);
+    }
+
+    /** SBCS r2, r0, r1; RSCS r2, r1, r0; in THUMB SBC r2, r1 with r2 as a. */
+    private static void dueWithCarry(int a, int b, int c, int flags) {
+        for (int before = 0; before < 16; before++) {
+            if ((before >> 1 & 1) == c) {
+                int status = Check.SVC | before << 28;
+                int want = a - b - 1 + c;
+                String what = a + " - " + b + " - 1 + " + c;
+                dueFlags("SBCS " + what, Check.with(Check.arm(status, 0xE0D02001), Check.SVC, a, b), want, flags);
+                dueFlags("RSCS " + what, Check.with(Check.arm(status, 0xE0F12000), Check.SVC, a, b), want, flags);
+                dueFlags("THUMB " + what, Check.with(Check.thumb(status, 0x418A), Check.SVC, 0, b, a), want, flags);
+            }
+        }
     }
 }
